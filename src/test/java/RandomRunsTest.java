@@ -4,7 +4,7 @@ import java.util.Random;
 
 /** Runs of calls by draws, each asked of FlexGrid and of the plain model; every answer must be the same. */
 public final class RandomRunsTest {
-    private static final int RUNS = 700;
+    private static final int RUNS = 500;
     private static final int CALLS = 180;
     private static final int SHOWN = 12;
 
@@ -13,6 +13,7 @@ public final class RandomRunsTest {
     private final PlainGrid plain = new PlainGrid();
     private final List<String> said = new ArrayList<>();
     private final int[] drawn = new int[5];
+    private int lastNode;
     private boolean wrong;
 
     private RandomRunsTest(long seed) {
@@ -44,13 +45,19 @@ public final class RandomRunsTest {
         }
     }
 
+    private static final String[] SHORT_TELLING = {"slots 9;", "slots 20;between 0;", "between 2;between 1;",
+        "reach 999 999 0 0;", "reach 30 20 10 5;", "slots 8;between 4;"};
+
     private static final String[] NAMES = {"ask", "drop", "slide", "sweep", "sweeps", "jump", "cut", "mend",
         "relight", "plan", "lasts", "ticks", "seed", "gridIs", "linkIs", "demandIs", "way", "found", "witness",
         "blocked", "repack", "planned", "waits", "unravel", "trial", "bestRule", "parts", "more", "ifCut", "keep",
         "undo", "check", "count", "grid", "works", "feed"};
 
     private void go(int[] asked) {
-        tellGrid();
+        // One time in some the text has a FAULT: most of the run should see links all the same.
+        for (int i = 0; i < 5 && plain.world.links.isEmpty() && !wrong; i++) {
+            tellGrid();
+        }
         for (int i = 0; i < CALLS && !wrong; i++) {
             int call = random.nextInt(3) == 0 ? 0 : random.nextInt(NAMES.length);
             asked[call]++;
@@ -91,7 +98,14 @@ public final class RandomRunsTest {
     }
 
     private int node() {
-        return near(0, plain.world.nodes - 1);
+        lastNode = near(0, plain.world.nodes - 1);
+        return lastNode;
+    }
+
+    /** Mostly another one than the node before. */
+    private int otherNode() {
+        int nodes = plain.world.nodes;
+        return random.nextInt(30) == 0 ? node() : Math.floorMod(lastNode + 1 + random.nextInt(nodes - 1), nodes);
     }
 
     private int rate() {
@@ -150,7 +164,7 @@ public final class RandomRunsTest {
     private void changes(String name) {
         switch (name) {
             case "ask" -> {
-                String l = label(name, node(), node(), rate(), rule());
+                String l = label(name, node(), otherNode(), rate(), rule());
                 due(l, grid.ask(drawn[0], drawn[1], drawn[2], drawn[3]),
                     plain.ask(drawn[0], drawn[1], drawn[2], drawn[3]));
             }
@@ -174,7 +188,9 @@ public final class RandomRunsTest {
             }
             case "cut" -> {
                 String l = label(name, link());
-                due(l, grid.cut(drawn[0]), plain.cut(drawn[0]));
+                if (plain.world.cut.size() < 3 || random.nextInt(20) == 0) {
+                    due(l, grid.cut(drawn[0]), plain.cut(drawn[0]));
+                }
             }
             case "mend" -> {
                 String l = label(name, link());
@@ -231,22 +247,22 @@ public final class RandomRunsTest {
                 due(l, grid.demandIs(drawn[0], drawn[1]), plain.demandIs(drawn[0], drawn[1]));
             }
             case "way" -> {
-                String l = label(name, node(), node(), near(0, 3), near(0, 4));
+                String l = label(name, node(), otherNode(), near(0, 3), near(0, 4));
                 due(l, grid.way(drawn[0], drawn[1], drawn[2], drawn[3]),
                     plain.way(drawn[0], drawn[1], drawn[2], drawn[3]));
             }
             case "found" -> {
-                String l = label(name, node(), node(), rate(), rule(), near(0, 2));
+                String l = label(name, node(), otherNode(), rate(), rule(), near(0, 2));
                 due(l, grid.found(drawn[0], drawn[1], drawn[2], drawn[3], drawn[4]),
                     plain.found(drawn[0], drawn[1], drawn[2], drawn[3], drawn[4]));
             }
             case "witness" -> {
-                String l = label(name, node(), node(), rate(), near(0, 3), near(0, plain.world.slots - 1));
+                String l = label(name, node(), otherNode(), rate(), near(0, 3), near(0, plain.world.slots - 1));
                 due(l, grid.witness(drawn[0], drawn[1], drawn[2], drawn[3], drawn[4]),
                     plain.witness(drawn[0], drawn[1], drawn[2], drawn[3], drawn[4]));
             }
             case "blocked" -> {
-                String l = label(name, node(), node(), rate(), near(0, 2));
+                String l = label(name, node(), otherNode(), rate(), near(0, 2));
                 due(l, grid.blocked(drawn[0], drawn[1], drawn[2], drawn[3]),
                     plain.blocked(drawn[0], drawn[1], drawn[2], drawn[3]));
             }
@@ -285,12 +301,12 @@ public final class RandomRunsTest {
                 due(l, grid.bestRule(drawn[0], drawn[1]), plain.bestRule(drawn[0], drawn[1]));
             }
             case "parts" -> {
-                String l = label(name, node(), node(), near(1, 64), rule());
+                String l = label(name, node(), otherNode(), near(1, 64), rule());
                 due(l, grid.parts(drawn[0], drawn[1], drawn[2], drawn[3]),
                     plain.parts(drawn[0], drawn[1], drawn[2], drawn[3]));
             }
             case "more" -> {
-                String l = label(name, node(), node(), rate(), rule());
+                String l = label(name, node(), otherNode(), rate(), rule());
                 due(l, grid.more(drawn[0], drawn[1], drawn[2], drawn[3]),
                     plain.more(drawn[0], drawn[1], drawn[2], drawn[3]));
             }
@@ -306,6 +322,9 @@ public final class RandomRunsTest {
     private void tellGrid() {
         StringBuilder b = new StringBuilder();
         int nodes = 2 + random.nextInt(7);
+        if (random.nextInt(4) == 0) {
+            b.append(SHORT_TELLING[random.nextInt(SHORT_TELLING.length)]);
+        }
         b.append("nodes ").append(nodes);
         if (random.nextInt(4) != 0) {
             b.append(";slots ").append(8 + random.nextInt(random.nextBoolean() ? 53 : 12));
@@ -317,8 +336,8 @@ public final class RandomRunsTest {
             b.append(";reach ").append(100 + random.nextInt(200)).append(" 99 ").append(30 + random.nextInt(60))
                 .append(" ").append(random.nextInt(30));
         }
-        int links = 1 + random.nextInt(14);
-        for (int i = 0; i < links && b.length() < 185; i++) {
+        int links = random.nextInt(5) == 0 ? 1 + random.nextInt(14) : 40;
+        for (int i = 0; i < links && b.length() < 189; i++) {
             int p = random.nextInt(nodes);
             int q = random.nextInt(nodes);
             boolean careless = random.nextInt(150) == 0;
@@ -326,7 +345,7 @@ public final class RandomRunsTest {
                 || b.indexOf("link " + q + " " + p + " ") >= 0;
             if (careless || !taken) {
                 b.append(";link ").append(p).append(' ').append(q).append(' ').append(1 + random.nextInt(
-                    random.nextBoolean() ? 9 : 99));
+                    random.nextInt(4) != 0 ? 9 : 99));
             }
         }
         say(spoil(b.toString()), true);
