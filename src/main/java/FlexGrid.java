@@ -1370,7 +1370,7 @@ public final class FlexGrid {
         /** The PLAN: as long as there is one, the lowest move that waits for none is done. */
         void carryOut() {
             int move = nextFree();
-            for (int i = 0; i < MOST_DEMANDS && move >= 0; i++) {
+            while (move >= 0 && done < MOST_DEMANDS) {
                 left &= ~(1L << move);
                 order[done] = move;
                 done++;

@@ -151,6 +151,8 @@ public final class ChangesTest {
         T.due("shares a slot", g.jump(0, 1), -1001);
         T.due("where it is", g.jump(0, 0), -1001);
         T.due("side by side", g.jump(0, 2), -2);
+        T.due("shares its lowest", g.jump(0, 1), -1001);
+        T.due("shares its highest", g.jump(0, 3), -1001);
         T.due("to the last", g.jump(0, 18), -16);
         T.due("beyond", g.jump(0, 19), -1000);
         T.due("no such slot", g.jump(0, 20), -1000);
@@ -219,10 +221,23 @@ public final class ChangesTest {
         T.due("from above", Tell.check(g, 255, 18, 15), -1);
         T.due("rule 4", g.plan(4), -1);
         T.due("rule -1", g.plan(-1), -1);
+        T.due("forty moves", fortyUp().plan(0), 40);
         FlexGrid spoiled = Spoiled.grid();
         T.due("spoiled", spoiled.plan(0), -2);
         T.due("nothing moved", Tell.check(spoiled, 255, 0, 0), -1);
         T.due("nor by links", spoiled.demandIs(1, 7), 4);
+    }
+
+    /** Forty demands, all of them one slot above where they could be. */
+    private static FlexGrid fortyUp() {
+        FlexGrid g = Tell.gridOf("slots 60;between 0;link 0 1 30");
+        for (int i = 0; i < 40; i++) {
+            g.ask(0, 1, 4, 0);
+        }
+        for (int i = 39; i >= 0; i--) {
+            g.jump(i, i + 1);
+        }
+        return g;
     }
 
     private static void lastings() {

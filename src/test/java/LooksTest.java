@@ -91,6 +91,10 @@ public final class LooksTest {
         T.due("two of 57", h.linkIs(0, 8), 350);
         T.due("room of 2", h.linkIs(0, 22), 55);
         T.due("room of 3", h.linkIs(0, 23), 53);
+        FlexGrid torn = Tell.gridOf("slots 8;between 0;link 0 1 30");
+        Tell.works(torn, "ask 0 1 8 0;ask 0 1 4 0;ask 0 1 8 0;ask 0 1 4 0;drop 0;drop 2");
+        T.due("three rows as long", torn.linkIs(0, 7), 3);
+        T.due("two thirds, cut", torn.linkIs(0, 8), 6666);
     }
 
     private static void demands() {
@@ -215,6 +219,12 @@ public final class LooksTest {
         T.due("with itself", g.witness(2, 2, 9, 0, 0), -1);
         g.drop(0);
         T.due("the next one", g.witness(0, 2, 9, 0, 2), 1);
+        FlexGrid line = Tell.gridOf("slots 20;link 0 1 30");
+        Tell.works(line, "ask 0 1 8 0;jump 0 10");
+        T.due("one between below", line.witness(0, 1, 8, 0, 7), -2);
+        T.due("too near below", line.witness(0, 1, 8, 0, 8), 0);
+        T.due("too near above", line.witness(0, 1, 8, 0, 12), 0);
+        T.due("one between above", line.witness(0, 1, 8, 0, 13), -2);
         FlexGrid far = Tell.gridOf("reach 9 9 9 9;link 0 1 10");
         T.due("can't carry", far.witness(0, 1, 1, 0, 0), -4);
     }

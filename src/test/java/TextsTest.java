@@ -111,6 +111,13 @@ public final class TextsTest {
         gridFault("Nodes 3", -1000);
         gridFault("node 3", -1000);
         gridFault("nodess 3", -1000);
+        gridFault("nodesz 3", -1000);
+        gridFault("nodesa 3", -1000);
+        gridFault("modes 3", -1000);
+        gridFault("nodes{3", -1005);
+        gridFault("nodes`3", -1005);
+        gridFault("nodes 3/", -1007);
+        gridFault("nodes 3:", -1007);
         gridFault("ask 0 1 1 0", -1000);
         gridFault("nodes", -1005);
         gridFault("nodes;", -1005);
