@@ -333,6 +333,11 @@ public final class BoundsOfDemandsTest {
         T.due("1 to 3, as long as 5 to 7", bottom.found(0, 1, 4, 2, 1), 1);
         FlexGrid last = Tell.gridWith("slots 8;between 0;link 0 1 30", "ask 0 1 4 3;ask 0 1 4 0;jump 1 4");
         T.due("5 to 6, shorter than 0 to 3", last.found(0, 1, 4, 2, 1), 5);
+        FlexGrid ways = Tell.gridWith("nodes 3;slots 10;link 0 1 10;link 1 2 10;link 0 2 30",
+            "ask 0 1 24 0;cut 1;ask 0 2 24 3;mend 1");
+        // four free at the top of the first way, four at the bottom of the second
+        T.due("as tight: the first way", ways.found(0, 2, 12, 2, 0), 0);
+        T.due("though its slot is higher", ways.found(0, 2, 12, 2, 1), 7);
     }
 
     private static void freeOnAllLinks() {
