@@ -455,7 +455,7 @@ public final class FlexGrid {
             case 0:
                 return ways.length[place];
             case 1:
-                return Integer.bitCount(ways.links[place]);
+                return ways.many[place];
             case 2:
                 return ways.links[place];
             default:
@@ -1167,6 +1167,8 @@ public final class FlexGrid {
         private final int[] knownFor = new int[MOST_NODES * MOST_NODES];
         final int[] links = new int[MOST_NODES * MOST_NODES * MOST_WAYS];
         final int[] length = new int[MOST_NODES * MOST_NODES * MOST_WAYS];
+        /** How many LINKS a way has. */
+        final int[] many = new int[MOST_NODES * MOST_NODES * MOST_WAYS];
         private int pair = 0;
         private int goal = 0;
         private int up = 0;
@@ -1189,7 +1191,7 @@ public final class FlexGrid {
                 knownFor[pair] = s.up;
                 up = s.up;
                 goal = to;
-                walk(s.net, from, 1, 1 << from, 0, 0);
+                walk(this, s.net, from, 1 << from, 0, 0, 0);
             }
             return pair;
         }
@@ -1198,39 +1200,42 @@ public final class FlexGrid {
          * Goes on from a node to all that were not seen yet, the lower number first: so of like ways the one
          * that comes first by its nodes is met first, and a later one stands behind it.
          */
-        private void walk(Net net, int node, int depth, int seen, int bits, int far) {
-            if (node == goal) {
-                offer(bits, far);
+        private static void walk(Ways ways, Net net, int node, int seen, int bits, int far, int steps) {
+            if (node == ways.goal) {
+                ways.offer(bits, far, steps);
                 return;
             }
-            if (depth >= MOST_NODES) {
+            if (steps >= MOST_NODES - 1) {
                 return;
             }
             for (int next = 0; next < net.nodes; next++) {
                 int link = net.linkAt[node * MOST_NODES + next];
-                if (link >= 0 && (up >>> link & 1) != 0 && (seen >>> next & 1) == 0) {
-                    walk(net, next, depth + 1, seen | 1 << next, bits | 1 << link, far + net.length[link]);
+                if (link >= 0 && (ways.up >>> link & 1) != 0 && (seen >>> next & 1) == 0) {
+                    walk(ways, net, next, seen | 1 << next, bits | 1 << link, far + net.length[link], steps + 1);
                 }
             }
         }
 
         /** A way comes to its place among those so far, behind like ones; what is fifth falls off. */
-        private void offer(int bits, int far) {
+        private void offer(int bits, int far, int steps) {
             int base = pair * MOST_WAYS;
-            int many = Integer.bitCount(bits);
             int at = known[pair];
             while (at > 0 && (far < length[base + at - 1]
-                || far == length[base + at - 1] && many < Integer.bitCount(links[base + at - 1]))) {
+                || far == length[base + at - 1] && steps < many[base + at - 1])) {
                 if (at < MOST_WAYS) {
                     links[base + at] = links[base + at - 1];
                     length[base + at] = length[base + at - 1];
+                    many[base + at] = many[base + at - 1];
                 }
                 at--;
             }
             if (at < MOST_WAYS) {
                 links[base + at] = bits;
                 length[base + at] = far;
-                known[pair] = Math.min(known[pair] + 1, MOST_WAYS);
+                many[base + at] = steps;
+                if (known[pair] < MOST_WAYS) {
+                    known[pair]++;
+                }
             }
         }
     }
